@@ -2,6 +2,7 @@
 public final class ModelTests {
     private static final int RUNS = 400;
     private static final int CALLS = 512;
+    private static final int BROKEN_RUNS = 4000;
     private static final int[] WRONG = {-1, Integer.MIN_VALUE, Integer.MAX_VALUE, 24, 100001, 20001};
 
     private final Due due = new Due();
@@ -15,6 +16,9 @@ public final class ModelTests {
         ModelTests tests = new ModelTests();
         for (int run = 0; run < RUNS && !tests.due.anyWrong(); run++) {
             tests.mixedRun(run);
+        }
+        for (int run = 0; run < BROKEN_RUNS && !tests.due.anyWrong(); run++) {
+            tests.brokenRun(run);
         }
         tests.due.end();
     }
@@ -61,6 +65,34 @@ public final class ModelTests {
                 change(kind);
             } else {
                 ask();
+            }
+        }
+    }
+
+    /** Small numbers and many bars, so that several breakings often have the same costs. */
+    private void brokenRun(int run) {
+        state = run * 104729L + 5;
+        where = "broken run " + run + ": ";
+        real = new SpringSpaces();
+        model = new Model();
+        int base = below(8);
+        is("table", real.table(base, 0), model.table(base, 0));
+        int columns = 3 + below(6);
+        for (int c = 0; c < columns; c++) {
+            is("column", real.column(c), model.column(c));
+        }
+        for (int c = 0; c < columns; c++) {
+            int width = below(4) == 0 ? below(12) : below(4);
+            boolean bar = below(6) > 0;
+            is("least", real.least(c, width), model.least(c, width));
+            is("bar", real.bar(c, bar), model.bar(c, bar));
+        }
+        for (int extent = 0; extent < 20; extent++) {
+            int lines = model.lines(extent);
+            is("lines(" + extent + ")", real.lines(extent), lines);
+            is("cost()", real.cost(), model.cost());
+            for (int k = 0; k <= lines; k++) {
+                is("begin(" + k + ") of " + extent, real.begin(k), model.begin(k));
             }
         }
     }
