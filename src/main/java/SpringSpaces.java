@@ -316,7 +316,7 @@ public final class SpringSpaces {
     private static long commonDivisor(long one, long other) {
         long a = one;
         long b = other;
-        // Each two steps halve a number of 63 bits at least once, so 128 are enough.
+        // Every two steps halve a number of 63 bits at least, so 128 are enough.
         for (int step = 0; step < 128 && b != 0; step++) {
             long rest = a % b;
             a = b;
@@ -441,11 +441,11 @@ public final class SpringSpaces {
 
         /** Whether there was one already. */
         boolean put(int staff, int column, int left, int right) {
-            int seat = seat(staff, column);
-            boolean before = there[seat];
-            there[seat] = true;
-            lefts[seat] = left;
-            rights[seat] = right;
+            int at = seat(staff, column);
+            boolean before = there[at];
+            there[at] = true;
+            lefts[at] = left;
+            rights[at] = right;
             return before;
         }
 
@@ -454,8 +454,8 @@ public final class SpringSpaces {
         }
 
         void takeAll() {
-            for (int seat = 0; seat < there.length; seat++) {
-                there[seat] = false;
+            for (int at = 0; at < there.length; at++) {
+                there[at] = false;
             }
         }
     }
@@ -577,7 +577,7 @@ public final class SpringSpaces {
         }
     }
 
-    /** The least fraction that stretches some gaps to a width, in lowest terms. */
+    /** The least fraction that stretches some gaps to a width. */
     private static final class Force {
         private long above = 0;
         private long below = 1;
@@ -609,7 +609,6 @@ public final class SpringSpaces {
                 fit(leasts, springs, from, to, width);
                 falling = below != before;
             }
-            bringToLowestTerms();
             return true;
         }
 
@@ -631,7 +630,7 @@ public final class SpringSpaces {
             below = pulling;
         }
 
-        private void bringToLowestTerms() {
+        void bringToLowestTerms() {
             long divisor = commonDivisor(above, below);
             above /= divisor;
             below /= divisor;
@@ -678,6 +677,7 @@ public final class SpringSpaces {
 
         int stretch(int extent) {
             boolean reached = force.find(leasts, springs, first, last, extent);
+            force.bringToLowestTerms();
             excess = Math.max(0, sumOfLeasts() - extent);
             if (excess > 0) {
                 return OVERFULL;
